@@ -91,7 +91,17 @@ public final class LinkEngine {
         }
         onTape = 0;
         hasRead = true;
-        return reader.readText(n) ? lines.waiting() : -1;
+        reader.begin(n);
+        for (int i = 0; i < n && reader.hasMore(); i++) {
+            if (reader.beginLine()) {
+                reader.readRest(lines.kindOfLast());
+            }
+        }
+        if (reader.faultFound != 0) {
+            lines.clear();
+            return -1;
+        }
+        return lines.waiting();
     }
 
     public int fault(int what) {
@@ -112,9 +122,16 @@ public final class LinkEngine {
         int done = 0;
         while (done < n && mayDoNext()) {
             int kind = lines.kindOfNext();
-            if (!doNext(kind)) {
+            int sizeBefore = paper.size;
+            boolean changed = perform(kind);
+            if (paper.overflown) {
+                paper.shrink(sizeBefore);
                 break;
             }
+            if (changed) {
+                keepChange(kind);
+            }
+            leaveLine(kind);
             done++;
             if (kind >= BRACKET) {
                 break;
@@ -184,26 +201,15 @@ public final class LinkEngine {
         return lines.kindOfNext() < BRACKET || sumsDone < SUMS_EVER;
     }
 
-    /** Changes are made in `next` and kept only when what is printed has room. */
-    private boolean doNext(int kind) {
-        int sizeBefore = paper.size;
-        boolean changed = perform(kind);
-        if (paper.overflown) {
-            paper.size = sizeBefore;
-            paper.overflown = false;
-            return false;
-        }
-        if (changed) {
-            keepChange(kind);
-        }
+    private void leaveLine(int kind) {
         lines.leaveNext();
         linesDone++;
         if (kind >= BRACKET) {
             sumsDone++;
         }
-        return true;
     }
 
+    /** Changes are made in `next` and `spare`, so that a line without room for its answer leaves no trace. */
     private void keepChange(int kind) {
         Diagram old = now;
         now = next;
@@ -280,8 +286,7 @@ public final class LinkEngine {
     }
 
     private boolean undoFace() {
-        next.copy(now);
-        int gone = moves.undo(now.shape(), next, lines.number(0));
+        int gone = moves.undo(now.shape(), now, next, lines.number(0));
         if (gone == 0) {
             paper.putAnswer("no");
             return false;
@@ -293,32 +298,22 @@ public final class LinkEngine {
     private boolean simplify() {
         next.copy(now);
         int gone = 0;
-        for (int round = 0; round < MAX_CROSSINGS; round++) {
-            int step = undoLeastFace();
-            if (step == 0) {
-                break;
+        int step = 1;
+        for (int round = 0; round < MAX_CROSSINGS && step > 0; round++) {
+            step = 0;
+            Shape shape = next.shape();
+            for (int face = 0; face < shape.faces && step == 0; face++) {
+                step = moves.undo(shape, next, trial, face);
             }
-            gone += step;
+            if (step > 0) {
+                Diagram undone = trial;
+                trial = next;
+                next = undone;
+                gone += step;
+            }
         }
         printUndone(gone);
         return true;
-    }
-
-    private int undoLeastFace() {
-        Shape shape = next.shape();
-        for (int face = 0; face < shape.faces; face++) {
-            int deed = shape.deed(face);
-            if (deed == 1 || deed == 2) {
-                trial.copy(next);
-                if (moves.undo(shape, trial, face) != 0) {
-                    Diagram undone = trial;
-                    trial = next;
-                    next = undone;
-                    return deed;
-                }
-            }
-        }
-        return 0;
     }
 
     private void printUndone(int gone) {
@@ -365,10 +360,11 @@ public final class LinkEngine {
             paper.putAnswer("many");
             return;
         }
+        Shape shape = now.shape();
         if (kind == ALEXANDER) {
-            minor.alexander(now, polynomial);
+            minor.alexander(now, shape, polynomial);
         } else {
-            stateSum.bracket(now, polynomial);
+            stateSum.bracket(now, shape, polynomial);
             if (kind == JONES) {
                 polynomial.timesFrame(-now.sumOfSigns());
             }
@@ -442,6 +438,10 @@ public final class LinkEngine {
             }
         }
 
+        int kindOfLast() {
+            return count > 0 ? kind[count - 1] : 0;
+        }
+
         int waiting() {
             return count - done;
         }
@@ -496,35 +496,25 @@ public final class LinkEngine {
             faultPlace = -1;
         }
 
-        boolean readText(int n) {
+        void begin(int n) {
             size = n;
             behind = 0;
             faultFound = 0;
             faultPlace = -1;
             lines.clear();
-            for (int i = 0; i < n && behind < n && faultFound == 0; i++) {
-                readLine();
-            }
-            if (faultFound != 0) {
-                lines.clear();
-            }
-            return faultFound == 0;
         }
 
-        private void readLine() {
+        boolean hasMore() {
+            return behind < size && faultFound == 0;
+        }
+
+        /** Whether a line begins; its end is passed over when it has no tokens. */
+        boolean beginLine() {
             advance();
-            if (token != END && beginLine()) {
-                int kind = kindOfWord();
-                advance();
-                if (readRest(kind) && token != END) {
-                    refuse(4);
-                }
+            if (token == END) {
+                behind = place + 1;
+                return false;
             }
-            // Of a line without a fault the token is its end now.
-            behind = place + 1;
-        }
-
-        private boolean beginLine() {
             int kind = kindOfWord();
             if (kind == 0) {
                 return refuse(3);
@@ -533,25 +523,32 @@ public final class LinkEngine {
                 return refuse(5);
             }
             lines.open(kind);
+            advance();
             return true;
         }
 
-        private boolean readRest(int kind) {
+        void readRest(int kind) {
+            boolean good = true;
             switch (kind) {
-                case CODE: return readCode();
-                case BRAID: return readNumber() && readLetters();
-                case TWIST: return readNumber() && readSign() && readSide();
-                case PUSH: return readSigned() && readSide() && readSigned();
+                case CODE: good = readCode(); break;
+                case BRAID: good = readNumber(false) && readLetters(); break;
+                case TWIST: good = readNumber(false) && readSign() && readSide(); break;
+                case PUSH: good = readNumber(true) && readSide() && readNumber(true); break;
                 case UNDO:
                 case SLIDE:
                 case REVERSE:
                 case CHANGE:
-                case SMOOTH: return readNumber();
+                case SMOOTH: good = readNumber(false); break;
                 case BRACKET:
                 case JONES:
-                case ALEXANDER: return token == END || readSum(variableOf(kind));
-                default: return true;
+                case ALEXANDER: good = token == END || readSum(variableOf(kind)); break;
+                default: break;
             }
+            if (good && token != END) {
+                refuse(4);
+            }
+            // Of a line without a fault the token is its end now.
+            behind = place + 1;
         }
 
         private boolean readCode() {
@@ -565,15 +562,15 @@ public final class LinkEngine {
             }
             if (isWord("o")) {
                 advance();
-                return readNumber();
+                return readNumber(false);
             }
             lines.add(0);
             return true;
         }
 
         private boolean readCrossing() {
-            return readSign() && readMark('[') && readNumber() && readMark(',') && readNumber()
-                && readMark(',') && readNumber() && readMark(',') && readNumber() && readMark(']');
+            return readSign() && readMark('[') && readNumber(false) && readMark(',') && readNumber(false)
+                && readMark(',') && readNumber(false) && readMark(',') && readNumber(false) && readMark(']');
         }
 
         private boolean readLetters() {
@@ -581,7 +578,7 @@ public final class LinkEngine {
                 if (i == MAX_LETTERS_READ) {
                     return refuse(5);
                 }
-                if (!readSigned()) {
+                if (!readNumber(true)) {
                     return false;
                 }
             }
@@ -634,26 +631,19 @@ public final class LinkEngine {
                 return true;
             }
             advance();
-            return readSigned();
+            return readNumber(true);
         }
 
-        private boolean readSigned() {
-            if (!isMark('-')) {
-                return readNumber();
+        private boolean readNumber(boolean maybeNegative) {
+            int sign = 1;
+            if (maybeNegative && isMark('-')) {
+                sign = -1;
+                advance();
             }
-            advance();
-            return readTimes(-1);
-        }
-
-        private boolean readNumber() {
-            return readTimes(1);
-        }
-
-        private boolean readTimes(int factor) {
             if (token != DIGITS || misshapen || value > MAX_PLAIN) {
                 return refuse(4);
             }
-            lines.add(factor * value);
+            lines.add(sign * value);
             advance();
             return true;
         }
@@ -728,27 +718,27 @@ public final class LinkEngine {
         }
 
         private void advance() {
-            skipSpaces();
-            if (byteAt(behind) == '#') {
-                skipRemark();
-            }
+            skipIdle();
             place = behind;
             int first = byteAt(place);
             if (first == 10) {
                 token = END;
-            } else if (isStray(first)) {
+                return;
+            }
+            behind++;
+            if (isStray(first)) {
                 token = STRAY;
-                behind++;
             } else if (isLetter(first)) {
                 token = WORD;
-                skipLetters();
-            } else if (isDigit(first)) {
+                while (behind < size && isLetter(text[behind])) {
+                    behind++;
+                }
+            } else if (first >= '0' && first <= '9') {
                 token = DIGITS;
-                takeDigits();
+                takeDigits(first - '0');
             } else {
                 token = MARK;
                 value = first;
-                behind++;
             }
         }
 
@@ -757,46 +747,37 @@ public final class LinkEngine {
             return i >= 0 && i < size ? text[i] : 10;
         }
 
-        private void skipSpaces() {
+        /** Spaces and a remark do not count, but a stray byte does in a remark, too. */
+        private void skipIdle() {
             while (behind < size && text[behind] == ' ') {
                 behind++;
             }
-        }
-
-        private void skipRemark() {
-            while (behind < size && text[behind] != 10 && !isStray(text[behind])) {
-                behind++;
+            if (byteAt(behind) == '#') {
+                while (behind < size && text[behind] >= 32 && text[behind] <= 126) {
+                    behind++;
+                }
             }
         }
 
-        private void skipLetters() {
-            while (behind < size && isLetter(text[behind])) {
-                behind++;
-            }
-        }
-
-        private void takeDigits() {
-            value = 0;
-            while (behind < size && isDigit(text[behind])) {
+        /** Digits beyond the most that a number may have are not kept. */
+        private void takeDigits(int first) {
+            value = first;
+            while (behind < size && text[behind] >= '0' && text[behind] <= '9') {
                 if (behind - place < MAX_DIGITS) {
                     value = 10 * value + (text[behind] - '0');
                 }
                 behind++;
             }
             int digits = behind - place;
-            misshapen = digits > MAX_DIGITS || digits > 1 && text[place] == '0';
+            misshapen = digits > MAX_DIGITS || digits > 1 && first == 0;
         }
 
         private static boolean isStray(int b) {
-            return b != 10 && (b < 32 || b > 126);
+            return b < 32 || b > 126;
         }
 
         private static boolean isLetter(int b) {
             return b >= 'a' && b <= 'z' || b >= 'A' && b <= 'Z';
-        }
-
-        private static boolean isDigit(int b) {
-            return b >= '0' && b <= '9';
         }
     }
 
@@ -816,6 +797,11 @@ public final class LinkEngine {
             } else {
                 overflown = true;
             }
+        }
+
+        void shrink(int newSize) {
+            size = newSize;
+            overflown = false;
         }
 
         void putEnd() {
@@ -923,11 +909,18 @@ public final class LinkEngine {
         private int circles;
         private boolean shapeIsKnown;
 
-        /** What the labels mean; found when it is asked for, as most lines do not ask. */
+        /** What the labels mean; found when it is asked for, as many lines do not ask. */
         Shape shape() {
             if (!shapeIsKnown) {
-                shape.find(this);
                 shapeIsKnown = true;
+                shape.clear();
+                shape.sortPlaces(this);
+                if (shape.labelsArePaired(4 * count) && shape.edgesHaveDirections(this)) {
+                    shape.findPieces(count);
+                    shape.findFaces();
+                    shape.findComponents();
+                    shape.checkSpheres(count);
+                }
             }
             return shape;
         }
@@ -1103,24 +1096,17 @@ public final class LinkEngine {
         private int brokenRule;
         private int culprit;
 
-        void find(Diagram d) {
+        void clear() {
             edges = 0;
             components = 0;
             pieces = 0;
             faces = 0;
             brokenRule = 0;
             culprit = 0;
-            sortPlaces(d);
-            if (labelsArePaired(4 * d.count) && edgesHaveDirections(d)) {
-                findPieces(d.count);
-                findFaces();
-                findComponents();
-                checkSpheres(d.count);
-            }
         }
 
         /** By label first, as edges, faces and components are numbered so. */
-        private void sortPlaces(Diagram d) {
+        void sortPlaces(Diagram d) {
             for (int place = 0; place < 4 * d.count; place++) {
                 int k = d.label[place] << PLACE_BITS | place;
                 int i = place;
@@ -1140,7 +1126,7 @@ public final class LinkEngine {
             return key[i] & (1 << PLACE_BITS) - 1;
         }
 
-        private boolean labelsArePaired(int places) {
+        boolean labelsArePaired(int places) {
             for (int i = 0; i < places; i += 2) {
                 int l = labelOfKey(i);
                 boolean single = i + 1 >= places || labelOfKey(i + 1) != l;
@@ -1152,7 +1138,7 @@ public final class LinkEngine {
             return true;
         }
 
-        private boolean edgesHaveDirections(Diagram d) {
+        boolean edgesHaveDirections(Diagram d) {
             for (int e = 0; e < 2 * d.count; e++) {
                 int p = placeOfKey(2 * e);
                 int q = placeOfKey(2 * e + 1);
@@ -1175,38 +1161,26 @@ public final class LinkEngine {
             return false;
         }
 
-        private void findPieces(int crossings) {
-            Arrays.fill(pieceOf, -1);
+        /** A piece goes by its least crossing. */
+        void findPieces(int crossings) {
             for (int c = 0; c < crossings; c++) {
-                if (pieceOf[c] < 0) {
-                    fillPiece(c, crossings);
-                    pieces++;
-                }
+                pieceOf[c] = c;
             }
-        }
-
-        private void fillPiece(int c, int crossings) {
-            int found = 1;
-            scratch[0] = c;
-            pieceOf[c] = pieces;
-            for (int i = 0; i < found && i < crossings; i++) {
-                for (int place = 4 * scratch[i]; place < 4 * scratch[i] + 4; place++) {
-                    int there = otherEnd(place) >> 2;
-                    if (pieceOf[there] < 0) {
-                        pieceOf[there] = pieces;
-                        scratch[found] = there;
-                        found++;
+            pieces = crossings;
+            for (int e = 0; e < edges; e++) {
+                int one = pieceOf[from[e] >> 2];
+                int other = pieceOf[to[e] >> 2];
+                if (one != other) {
+                    int least = Math.min(one, other);
+                    for (int c = 0; c < crossings; c++) {
+                        pieceOf[c] = pieceOf[c] == one || pieceOf[c] == other ? least : pieceOf[c];
                     }
+                    pieces--;
                 }
             }
         }
 
-        private int otherEnd(int place) {
-            int e = edgeAt[place];
-            return from[e] == place ? to[e] : from[e];
-        }
-
-        private void findFaces() {
+        void findFaces() {
             Arrays.fill(faceOf, -1);
             for (int start = 0; start < 2 * edges; start++) {
                 if (faceOf[start] < 0) {
@@ -1224,7 +1198,7 @@ public final class LinkEngine {
             }
         }
 
-        private void findComponents() {
+        void findComponents() {
             Arrays.fill(componentOf, -1);
             for (int start = 0; start < edges; start++) {
                 if (componentOf[start] < 0) {
@@ -1239,7 +1213,7 @@ public final class LinkEngine {
         }
 
         /** On a sphere a piece has two faces more than crossings. */
-        private void checkSpheres(int crossings) {
+        void checkSpheres(int crossings) {
             Arrays.fill(scratch, -2);
             for (int face = 0; face < faces; face++) {
                 scratch[pieceOfEdge(faceStart[face] >> 1)]++;
@@ -1388,23 +1362,21 @@ public final class LinkEngine {
     private static final class Moves {
         private final int[] free = new int[4];
 
-        /** How many crossings went; 0 when it can't be done (the copy is of no use then). */
-        int undo(Shape shape, Diagram d, int face) {
-            if (face < 0 || face >= shape.faces) {
-                return 0;
-            }
-            int deed = shape.deed(face);
+        /** How many crossings are gone in the copy; 0 when it can't be done (the copy is of no use then). */
+        int undo(Shape shape, Diagram d, Diagram copy, int face) {
+            int deed = face >= 0 && face < shape.faces ? shape.deed(face) : 0;
             if (deed != 1 && deed != 2) {
                 return 0;
             }
             int dart = shape.faceStart[face];
             int one = shape.arrival(dart) >> 2;
             int other = shape.arrival(shape.nextDart(dart)) >> 2;
-            d.lift(Math.min(one, other));
+            copy.copy(d);
+            copy.lift(Math.min(one, other));
             if (deed == 2) {
-                d.lift(Math.max(one, other) - 1);
+                copy.lift(Math.max(one, other) - 1);
             }
-            return d.circles <= MAX_CIRCLES ? deed : 0;
+            return copy.circles <= MAX_CIRCLES ? deed : 0;
         }
 
         boolean slide(Shape shape, Diagram d, int face) {
@@ -1861,13 +1833,13 @@ public final class LinkEngine {
         private final int[] states = new int[(MOST_CIRCLES + 1) * POWERS];
         private int crossings;
 
-        void bracket(Diagram d, Polynomial result) {
+        void bracket(Diagram d, Shape shape, Polynomial result) {
             result.clear();
             if (d.count == 0 && d.circles == 0) {
                 result.add(0, 1);
                 return;
             }
-            countStates(d);
+            countStates(d, shape);
             int most = mostCircles();
             int reach = crossings;
             for (int circles = most; circles >= 1; circles--) {
@@ -1881,8 +1853,7 @@ public final class LinkEngine {
             }
         }
 
-        private void countStates(Diagram d) {
-            Shape shape = d.shape();
+        private void countStates(Diagram d, Shape shape) {
             crossings = Math.min(d.count, SUM_CROSSINGS);
             for (int e = 0; e < 2 * crossings; e++) {
                 mate[shape.from[e]] = shape.to[e];
@@ -1937,25 +1908,26 @@ public final class LinkEngine {
     }
 
     /**
-     * The Alexander polynomial. The columns of the matrix add up to 0, and so do its rows, each times
-     * some power of t with a sign: so all minors are one up to such factors, and one of them is the divisor.
+     * The Alexander polynomial. The columns of the matrix add up to 0, and so do its rows, each times some
+     * power of t with a sign: so minors with a row less are one up to such factors, and those with all rows are 0.
      */
     private static final class Minor {
-        private static final int WIDTH = SUM_CROSSINGS + 1;
+        private static final int MAX_ORDER = SUM_CROSSINGS - 1;
+        private static final int WIDTH = MAX_ORDER + 1;
 
-        private final int[] sum = new int[(1 << SUM_CROSSINGS) * WIDTH];
+        private final int[] sum = new int[(1 << MAX_ORDER) * WIDTH];
+        private final int[] reached = new int[1 << MAX_ORDER];
         private int order;
 
-        void alexander(Diagram d, Polynomial result) {
+        void alexander(Diagram d, Shape shape, Polynomial result) {
             result.clear();
-            Shape shape = d.shape();
             order = shape.findArcs() + d.circles - 1;
-            if (order < 0 || order > d.count || order > SUM_CROSSINGS) {
+            if (order < 0 || order > Math.max(0, d.count - 1) || order > MAX_ORDER) {
                 return;
             }
             expand(d, shape);
             int full = (1 << order) - 1;
-            for (int e = 0; e <= order; e++) {
+            for (int e = 0; e <= order && reached[full] == 1; e++) {
                 result.add(e, sum[full * WIDTH + e]);
             }
             result.makeNormal();
@@ -1963,18 +1935,31 @@ public final class LinkEngine {
 
         /** For each set of columns the minor of so many first rows in these columns, from the smaller sets on. */
         private void expand(Diagram d, Shape shape) {
-            int full = (1 << order) - 1;
-            Arrays.fill(sum, 0, (full + 1) * WIDTH, 0);
+            Arrays.fill(reached, 0);
+            reach(0);
             sum[0] = 1;
+            int full = (1 << order) - 1;
             for (int set = 0; set < full; set++) {
-                int c = Integer.bitCount(set);
-                int in = shape.arcOf[shape.edgeAt[4 * c]];
-                int out = shape.arcOf[shape.edgeAt[4 * c + 2]];
-                int upper = shape.arcOf[shape.edgeAt[4 * c + 1]];
-                boolean positive = d.sign[c] > 0;
-                addColumn(set, c, positive ? in : out, 0, 1);
-                addColumn(set, c, positive ? out : in, -1, 0);
-                addColumn(set, c, upper, 1, -1);
+                if (reached[set] == 1) {
+                    int c = Integer.bitCount(set);
+                    int in = shape.arcOf[shape.edgeAt[4 * c]];
+                    int out = shape.arcOf[shape.edgeAt[4 * c + 2]];
+                    int upper = shape.arcOf[shape.edgeAt[4 * c + 1]];
+                    boolean positive = d.sign[c] > 0;
+                    addColumn(set, c, positive ? in : out, 0, 1);
+                    addColumn(set, c, positive ? out : in, -1, 0);
+                    addColumn(set, c, upper, 1, -1);
+                }
+            }
+        }
+
+        /** Rows have three entries at most, so few sets are reached: only these are cleared. */
+        private void reach(int set) {
+            if (reached[set] == 0) {
+                reached[set] = 1;
+                for (int e = 0; e < WIDTH; e++) {
+                    sum[set * WIDTH + e] = 0;
+                }
             }
         }
 
@@ -1983,9 +1968,11 @@ public final class LinkEngine {
             if (column >= order || (set >> column & 1) == 1) {
                 return;
             }
+            int larger = set | 1 << column;
+            reach(larger);
             int sign = (Integer.bitCount(set >> column) & 1) == 1 ? -1 : 1;
             int source = set * WIDTH;
-            int target = (set | 1 << column) * WIDTH;
+            int target = larger * WIDTH;
             for (int e = 0; e <= row; e++) {
                 int value = sign * sum[source + e];
                 sum[target + e] += fixed * value;
