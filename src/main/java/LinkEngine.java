@@ -37,9 +37,9 @@ public final class LinkEngine {
     private static final int JONES = 17;
     private static final int ALEXANDER = 18;
 
+    private final Reader reader;
     private final int[] tape;
     private final Lines lines;
-    private final Reader reader;
     private final Paper paper;
     private final Moves moves;
     private final StateSum stateSum;
@@ -57,9 +57,9 @@ public final class LinkEngine {
     private int sumsDone;
 
     public LinkEngine() {
-        tape = new int[ROOM];
-        lines = new Lines();
-        reader = new Reader(tape, lines);
+        reader = new Reader();
+        tape = reader.text;
+        lines = reader.lines;
         paper = new Paper();
         moves = new Moves();
         stateSum = new StateSum();
@@ -479,8 +479,8 @@ public final class LinkEngine {
         private static final int MAX_DIGITS = 18;
         private static final int MAX_PLAIN = 9999;
 
-        private final int[] text;
-        private final Lines lines;
+        private final int[] text = new int[ROOM];
+        private final Lines lines = new Lines();
         private int size;
         private int behind;
         private int token;
@@ -488,13 +488,7 @@ public final class LinkEngine {
         private long value;
         private boolean misshapen;
         private int faultFound;
-        private int faultPlace;
-
-        Reader(int[] text, Lines lines) {
-            this.text = text;
-            this.lines = lines;
-            faultPlace = -1;
-        }
+        private int faultPlace = -1;
 
         void begin(int n) {
             size = n;

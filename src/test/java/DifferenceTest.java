@@ -24,6 +24,7 @@ public final class DifferenceTest {
   private void go() {
     compareAll();
     for (int round = 0; round < 8; round++) {
+      if (random.nextInt(3) == 0) walk(20);
       String text = text();
       if (random.nextInt(3) == 0) text = spoil(text);
       put(text);
@@ -38,6 +39,40 @@ public final class DifferenceTest {
         doAll();
       }
       if (random.nextInt(3) > 0) { boolean tape = random.nextInt(8) == 0; same("wipe", x.wipe(tape), r.wipe(tape)); }
+    }
+  }
+
+  /** Lines one by one, each of them chosen by what the diagram is: most of them can be done. */
+  private void walk(int steps) {
+    put(random.nextBoolean() ? braid(random.nextBoolean()) : code());
+    doAll();
+    for (int i = 0; i < steps; i++) {
+      put(fitting());
+      doAll();
+      if (r.out.length() > 3000) same("wipe", x.wipe(false), r.wipe(false));
+    }
+  }
+
+  private String fitting() {
+    List<List<Integer>> faces = Reference.faces(r.d);
+    String some = line(true);
+    if (faces.isEmpty()) return random.nextBoolean() ? "twist 0 + over" : some;
+    List<Integer> face = faces.get(random.nextInt(faces.size()));
+    int dart = face.get(random.nextInt(face.size()));
+    switch (random.nextInt(9)) {
+      case 0, 1, 2:
+        for (int f = 0; f < faces.size(); f++) if (Reference.deed(r.d, faces.get(f)) == 3 && random.nextInt(3) > 0) return "slide " + f;
+        return "push " + dart + side() + " " + face.get(random.nextInt(face.size()));
+      case 3, 4: return "push " + dart + side() + " " + face.get(random.nextInt(face.size()));
+      case 5: {
+        List<Integer> other = faces.get(random.nextInt(faces.size()));
+        return "push " + dart + side() + " " + other.get(random.nextInt(other.size()));
+      }
+      case 6:
+        for (int f = 0; f < faces.size(); f++) if (Reference.deed(r.d, faces.get(f)) % 3 != 0 && random.nextInt(3) > 0) return "undo " + f;
+        return "twist " + Math.abs(dart) + (random.nextBoolean() ? "+" : "-") + side();
+      case 7: return (random.nextBoolean() ? "change " : "smooth ") + random.nextInt(r.d.size() + 1);
+      default: return some;
     }
   }
 
