@@ -461,7 +461,10 @@ public final class LinkEngine {
         }
 
         long longNumber(int i) {
-            return i >= 0 && i < numbers() ? value[start[done] + i] : 0;
+            if (done >= count || i < 0 || i >= start[done + 1] - start[done]) {
+                return 0;
+            }
+            return value[start[done] + i];
         }
 
         int number(int i) {
@@ -746,7 +749,7 @@ public final class LinkEngine {
             while (behind < size && text[behind] == ' ') {
                 behind++;
             }
-            if (byteAt(behind) == '#') {
+            if (behind < size && text[behind] == '#') {
                 while (behind < size && text[behind] >= 32 && text[behind] <= 126) {
                     behind++;
                 }
@@ -1777,7 +1780,7 @@ public final class LinkEngine {
             for (int i = 0; i < terms; i++) {
                 int exponent = lines.number(2 * i + 1);
                 if (isFirstOf(lines, i, exponent)) {
-                    if (!isSumAt(lines, i, exponent)) {
+                    if (!isSumAt(lines, i, terms, exponent)) {
                         return false;
                     }
                     met += coefficient(exponent) != 0 ? 1 : 0;
@@ -1796,13 +1799,14 @@ public final class LinkEngine {
         }
 
         /** Sums may go beyond a long, so the halves of the coefficients are added up apart. */
-        private boolean isSumAt(Lines lines, int start, int exponent) {
+        private boolean isSumAt(Lines lines, int start, int terms, int exponent) {
             long high = 0;
             long low = 0;
-            for (int i = start; i < lines.numbers() / 2; i++) {
+            for (int i = start; i < terms; i++) {
                 if (lines.number(2 * i + 1) == exponent) {
-                    high += lines.longNumber(2 * i) / HALF;
-                    low += lines.longNumber(2 * i) % HALF;
+                    long value = lines.longNumber(2 * i);
+                    high += value / HALF;
+                    low += value % HALF;
                 }
             }
             long rest = coefficient(exponent) - low;
