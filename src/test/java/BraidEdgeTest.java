@@ -15,6 +15,8 @@ public final class BraidEdgeTest {
     neighbours();
     arguments();
     asManyStrands();
+    lengthAskedFirst();
+    oneWordAfterAnother();
     Checks.end();
   }
 
@@ -264,5 +266,34 @@ public final class BraidEdgeTest {
     x.due("eight", x.says("braid 8") + x.same(), "# ok\nfalse");
     x.due("the same letters", x.says("braid 4 1\nbraid 5 1") + x.same(), "# ok\n# ok\nfalse");
     x.due("the same k", x.says("braid 2 1\nbraid 3 1 2 1") + x.same(), "# ok\n# ok\nfalse");
+  }
+
+  /** Promise 12: "How many simple braids that normal form has", whatever was asked before */
+  private static void lengthAskedFirst() {
+    Session x = new Session("length first");
+    x.due("none at first", x.length(false) * 10 + x.length(true), 0);
+    x.due("set up", x.says("braid 3 1 1 2 2\nbraid 3 -1 -1"), "# ok\n# ok\n");
+    x.due("length", x.length(false), 2);
+    x.due("the one before", x.length(true), 3);
+    x.due("another", x.says("braid 8"), "# ok\n");
+    x.due("length", x.length(false), 0);
+    x.due("the one before", x.length(true), 2);
+  }
+
+  /** A word's form has nothing of the words that were there earlier. */
+  private static void oneWordAfterAnother() {
+    Session x = new Session("one word after another");
+    String[][] rows = {{"3", " 1 2 1 1", "1: 213"}, {"2", " -1 -1", "-2:"}, {"3", " 1 1 2 2", "0: 213 312 132"}, {"4", " 1 3", "0: 2143"}, {"2", " 1", "1:"}, {"8", "", "0:"},
+      {"1", "", "0:"}, {"3", " -1", "-1: 312"}, {"3", "", "0:"}, {"4", " 1 2 3 3 2 1", "0: 4123 2341"}};
+    String before = "0:";
+    int strands = 1;
+    for (String[] row : rows) {
+      x.due(row[1], x.says("braid " + row[0] + row[1]), "# ok\n");
+      int n = Integer.parseInt(row[0]);
+      x.due("form of" + row[1], form(x, false, n), row[2]);
+      x.due("form before" + row[1], form(x, true, strands), before);
+      before = row[2];
+      strands = n;
+    }
   }
 }

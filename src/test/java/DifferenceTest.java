@@ -186,6 +186,7 @@ public final class DifferenceTest {
   /** The code of some closure, often with something in it that makes it none. */
   private String code() {
     if (random.nextInt(5) == 0) return "code o " + random.nextInt(24);
+    if (random.nextInt(5) == 0) return nearlyFull();
     Reference other = new Reference();
     String b = braid(random.nextBoolean());
     int[] t = Checks.bytes(b);
@@ -207,6 +208,18 @@ public final class DifferenceTest {
     }
     int more = random.nextInt(30) == 0 ? 20 : other.circles;
     return Reference.printDiagram(d, more).trim();
+  }
+
+  /** Loops that may become circles, with nearly as many circles, or crossings, as there can be. */
+  private String nearlyFull() {
+    StringBuilder s = new StringBuilder("code");
+    int n = random.nextBoolean() ? 17 + random.nextInt(4) : 1 + random.nextInt(6);
+    for (int k = 0; k < n; k++) {
+      int a = 2 * k + 1 + random.nextInt(2);
+      int b = 4 * k + 3 - a;
+      s.append(random.nextBoolean() ? " +[" + a + "," + a + "," + b + "," + b + "]" : " -[" + a + "," + b + "," + b + "," + a + "]");
+    }
+    return s + " o " + (n < 10 ? 15 + random.nextInt(7) : random.nextInt(21));
   }
 
   private String spoil(String text) {

@@ -24,6 +24,7 @@ public final class MoveEdgeTest {
     smoothAndCircles();
     numberFromTheLeastLabelOn();
     facesWhateverCirclesWouldBeLeft();
+    whatWasThereEarlierIsNotThere();
     Checks.end();
   }
 
@@ -53,6 +54,12 @@ public final class MoveEdgeTest {
     moves("code +[1, 3, 4, 2] +[6, 1, 2, 4] +[5, 5, 6, 3]", "undo 4", "# undone 1", HOPF);
     moves(LOOP, "undo 1", "# undone 1", "code o 1");
     moves(APART, "undo 0", "# undone 2", "code o 2");
+    // Crossings that go may stand ahead of others.
+    moves("code +[1, 1, 2, 2] +[3, 3, 4, 4] +[5, 5, 6, 6]", "undo 4", "# undone 1", "code +[1, 1, 2, 2] +[5, 5, 6, 6] o 1");
+    moves("code +[1, 4, 5, 2] -[5, 4, 1, 7] +[7, 2, 3, 3]", "undo 1", "# undone 2", "code +[2, 2, 3, 3] o 1");
+    moves("code +[1, 4, 5, 2] -[5, 4, 1, 7] +[7, 2, 3, 3]", "undo 4", "# undone 2", "code +[2, 2, 3, 3] o 1");
+    moves("code +[4, 1, 5, 2] -[5, 1, 4, 7] +[7, 2, 3, 3]", "undo 1", "# undone 2", "code +[1, 1, 3, 3] o 1");
+    moves("code +[7, 7, 8, 8] " + APART.substring(5), "undo 0", "# undone 2", "code +[7, 7, 8, 8] o 2");
   }
 
   /** "of one dart: the crossing there is lifted" - at a face that is there */
@@ -108,6 +115,8 @@ public final class MoveEdgeTest {
     moves(LOOP + " +[3, 3, 4, 4] o 18", "simplify", "# undone 2", "code o 20");
     moves(LOOP + " +[3, 3, 4, 4] o 19", "simplify", "# undone 1", "code +[3, 3, 4, 4] o 20");
     moves("code +[3, 3, 4, 4] +[1, 1, 2, 2] o 19", "simplify", "# undone 1", "code +[3, 3, 4, 4] o 20");
+    // The least face of all is the only one where that can be.
+    moves("code +[5, 3, 4, 2] +[6, 5, 2, 4] +[3, 6, 1, 1]", "simplify", "# undone 1", "code +[5, 1, 4, 2] +[1, 5, 2, 4]");
     // The lone loop has the least face and would be a circle too many; the other crossings go.
     moves(LOOP + " +[3, 3, 4, 6] -[4, 5, 5, 6] o 20", "simplify", "# undone 1", LOOP + " -[3, 5, 5, 3] o 20");
     StringBuilder most = new StringBuilder("code");
@@ -123,6 +132,13 @@ public final class MoveEdgeTest {
     String slid = "code +[5, 2, 3, 4] +[1, 1, 5, 6] +[2, 6, 4, 3]";
     moves(three, "slide 4", slid);
     for (int face : new int[] {0, 1, 2, 3, 5, 9999}) stays(three, "slide " + face);
+    moves("code +[4, 1, 5, 2] +[5, 6, 3, 3] +[1, 4, 2, 6]", "slide 0", "code +[5, 2, 3, 1] +[4, 4, 5, 6] +[2, 6, 1, 3]");
+    moves("code +[7, 7, 8, 8] " + three.substring(5), "slide 4", "code +[7, 7, 8, 8] " + slid.substring(5));
+    // Four darts at four crossings, edges upper, lower, both and both.
+    String four = "code +[1, 5, 6, 2] +[5, 7, 8, 6] +[7, 9, 10, 8] +[10, 11, 3, 3] -[11, 9, 1, 2] o 1";
+    says(four + "\nfaces", "# ok\n# 7\n# 0 2 1 -2\n# 1 0 -1 -9 -7 -5\n# 2 0 2 6 8 10 -3 11\n# 3 1 3\n# 4 0 5 -6\n# 5 0 7 -8\n# 6 3 9 -11 -10\n");
+    stays(four, "slide 1");
+    stays(four, "undo 1");
     // The same face once more, with its darts turned: all is as it was.
     says(three + "\nslide 4\nfaces", "# ok\n# ok\n# 5\n# 0 0 1 -6 -2 -5\n# 1 1 -1\n# 2 0 2 -3\n# 3 0 3 4\n# 4 3 -4 6 5\n");
     moves(slid, "slide 4", three);
@@ -181,6 +197,9 @@ public final class MoveEdgeTest {
     Session x = new Session("19 crossings");
     x.due("set up", x.says(row(19) + "number\ntwist 38 + over"), "# ok\n# ok\n# ok\n");
     x.due("the crossing's labels", "" + x.crossing(19, 0) + " " + x.crossing(19, 1) + " " + x.crossing(19, 2) + " " + x.crossing(19, 3), "39 39 40 38");
+    Session z = new Session("signs of a push");
+    z.due("set up", z.says(LOOP + "\npush 1 under -2"), "# ok\n# ok\n");
+    z.due("signs", z.crossing(0, 4) + " " + z.crossing(1, 4) + " " + z.crossing(2, 4), "1 1 -1");
     Session y = new Session("18 crossings");
     y.due("set up", y.says(row(18) + "number\npush 1 over -20"), "# ok\n# ok\n# no\n");
     y.due("faces have it", y.says("push 1 over -19"), "# ok\n");
@@ -292,5 +311,20 @@ public final class MoveEdgeTest {
   private static void facesWhateverCirclesWouldBeLeft() {
     says(LOOP + " o 20\nfaces", "# ok\n# 3\n# 0 0 1 -2\n# 1 1 -1\n# 2 1 2\n");
     says(APART + " o 19\nfaces\nundo 0", "# ok\n# 4\n# 0 2 1 -2\n# 1 2 -1 -3\n# 2 2 2 4\n# 3 2 3 -4\n# no\n");
+  }
+
+  /** "for what is not there: # no": faces, edges and crossings of a larger diagram that was there before, too */
+  private static void whatWasThereEarlierIsNotThere() {
+    StringBuilder larger = new StringBuilder("code");
+    for (int a = 1; a < 40; a += 2) larger.append(" +[" + (a + 1) + ", " + (a + 1) + ", " + a + ", " + a + "]");
+    String small = "code +[2, 2, 1, 1]";
+    Session x = new Session("a larger one before");
+    x.due("set up", x.says(larger + "\nmirror\nmirror\nsimplify\n" + larger + "\nmirror\nmirror\n" + small), "# ok\n# ok\n# ok\n# undone 20\n# ok\n# ok\n# ok\n# ok\n");
+    String before = x.all();
+    for (String line : new String[] {"undo 3", "undo 4", "slide 3", "twist 3 + over", "push 1 over 3", "push 3 over -1", "reverse 1", "change 1", "smooth 1"})
+      x.due(line, x.says(line), "# no\n");
+    x.due("behind them", x.all(), before);
+    String three = "code +[1, 4, 5, 2] +[5, 6, 3, 3] +[4, 1, 2, 6]";
+    says(three + "\n" + three + "\nnumber\nnumber\n" + three + "\n" + APART + "\nslide 4\nslide 3\nshow", "# ok\n".repeat(6) + "# no\n# no\n" + APART + "\n");
   }
 }

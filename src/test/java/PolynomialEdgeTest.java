@@ -23,6 +23,7 @@ public final class PolynomialEdgeTest {
     wholeNumbersOfAnySize();
     zeroWithoutTerms();
     printedIsATextAgain();
+    oneAfterAnother();
     Checks.end();
   }
 
@@ -243,6 +244,23 @@ public final class PolynomialEdgeTest {
       x.due("read", x.read(n), 3);
       x.due("done", x.runAll(), 3);
       x.due("answers", x.paper(), "# yes\n# yes\n# yes\n");
+    }
+  }
+
+  /** A polynomial has nothing of those that were found earlier. */
+  private static void oneAfterAnother() {
+    String[][] rows = {{"braid 3 1 -2 1 -2 1 -2 1 -2 1 -2", null}, {TREFOIL.trim(), "1 - t + t^2"}, {"braid 3 1 -2 1 -2", "1 - 3t + t^2"}, {"code o 9", "0"}, {"code o 1", "1"},
+      {"braid 2 1 1", "1 - t"}, {loops(10, true), "0"}, {"braid 3 1 1 1 2 -1 2", "2 - 3t + 2t^2"}, {"braid 4 1 -2 3 -2 1 -2 3 -2 1 3", null}, {"braid 2 1 1 1 1", "1 - t + t^2 - t^3"},
+      {"braid 3 1 2", "1"}, {"code", "0"}, {"braid 2 -1 -1 -1", "1 - t + t^2"}, {"braid 2 1 -1", "0"}, {"braid 3 1 -2 1 -2", "1 - 3t + t^2"}};
+    Session x = new Session("one after another");
+    for (String[] row : rows) {
+      Session alone = new Session("alone");
+      String bracket = alone.says(row[0] + "\nbracket").substring(5);
+      String alexander = row[1] == null ? new Session("alone").says(row[0] + "\nalexander").substring(5) : "alexander = " + row[1] + "\n";
+      x.text(row[0] + "\n" + alexander + bracket);
+      x.due("lines", x.runAll(), 3);
+      x.due("as if alone: " + row[0], x.paper(), "# ok\n# yes\n# yes\n");
+      x.wipe(false);
     }
   }
 }
