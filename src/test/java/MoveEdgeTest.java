@@ -326,5 +326,17 @@ public final class MoveEdgeTest {
     x.due("behind them", x.all(), before);
     String three = "code +[1, 4, 5, 2] +[5, 6, 3, 3] +[4, 1, 2, 6]";
     says(three + "\n" + three + "\nnumber\nnumber\n" + three + "\n" + APART + "\nslide 4\nslide 3\nshow", "# ok\n".repeat(6) + "# no\n# no\n" + APART + "\n");
+    slideJustBehindTheLastFace();
+  }
+
+  /** A slide at the number of a face that a larger diagram had, while this one's last face is just ahead of it. */
+  private static void slideJustBehindTheLastFace() {
+    String first = "code +[4, 1, 5, 2] +[5, 6, 3, 3] +[1, 4, 2, 6]";
+    for (int times = 1; times <= 4; times++) says((first + "\n").repeat(times) + "code\nslide 0\ncode\nslide 0\nslide 0\nshow", "# ok\n".repeat(times + 1) + "# no\n# ok\n# no\n# no\ncode\n");
+    // The loop has faces 0 to 2; the larger diagram's face 3 lies at its later edges and crossings alone.
+    String later = "code +[2, 2, 1, 1] +[6, 3, 7, 4] +[7, 8, 5, 5] +[3, 6, 4, 8]";
+    says(later + "\nfaces", "# ok\n# 8\n# 0 1 1\n# 1 0 -1 2\n# 2 1 -2\n# 3 3 3 -8 -7\n# 4 0 -3 -6\n# 5 0 4 7 -5 8\n# 6 0 -4 6\n# 7 1 5\n");
+    for (int times = 1; times <= 4; times++)
+      says((later + "\n").repeat(times) + LOOP + "\nslide 3\n" + LOOP + "\nslide 3\nslide 3\nshow", "# ok\n".repeat(times + 1) + "# no\n# ok\n# no\n# no\n" + LOOP + "\n");
   }
 }
