@@ -380,6 +380,10 @@ public final class TextEdgeTest {
     bad("braid -1", 4, 6);
     bad("twist -1 + over", 4, 6);
     bad("code +[-1, 1, 2, 2]", 4, 7);
+    bad("code +[1, -1, 2, 2]", 4, 10);
+    bad("code +[1, 1, -2, 2]", 4, 13);
+    bad("code +[1, 1, 2, -2]", 4, 16);
+    bad("code o -1", 4, 7);
     bad("push +1 over 1", 4, 5);
     bad("braid 2 +1", 4, 8);
   }
