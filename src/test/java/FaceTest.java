@@ -6,6 +6,8 @@ import java.nio.file.Files;
 import java.nio.file.Path;
 import java.util.Set;
 import java.util.TreeSet;
+import java.util.regex.Matcher;
+import java.util.regex.Pattern;
 
 /** The public face is the document's and no more, and the source keeps to rules of LANGUAGE.md that a test can see. */
 public final class FaceTest {
@@ -31,6 +33,7 @@ public final class FaceTest {
         seen.add(s.append(')').toString());
       } else {
         Checks.due(m.getName() + " is private", Modifier.isPrivate(m.getModifiers()), true);
+        hasItsOwnName(m);
       }
     }
     Checks.due("methods", seen, new TreeSet<>(FACE));
@@ -39,8 +42,15 @@ public final class FaceTest {
     Checks.due("one constructor", all.length == 1 && all[0].getParameterCount() == 0 && Modifier.isPublic(all[0].getModifiers()), true);
   }
 
+  private static void hasItsOwnName(Method m) {
+    Checks.due(m + " has a name of its own", FACE.stream().noneMatch(s -> s.contains(" " + m.getName() + "(")), true);
+  }
+
   private static void inside(Class<?> outer) {
     Checks.due("classes, with the outer one", outer.getDeclaredClasses().length + 1 <= 12, true);
+    Checks.due("fields of the engine", java.util.Arrays.stream(outer.getDeclaredFields()).filter(f -> !Modifier.isStatic(f.getModifiers())).count() <= 20, true);
+    for (Field f : outer.getDeclaredFields())
+      if (Modifier.isStatic(f.getModifiers())) Checks.due(f.getName() + " is a constant", Modifier.isFinal(f.getModifiers()) && f.getType() == int.class, true);
     for (Class<?> c : outer.getDeclaredClasses()) {
       Checks.due(c.getName() + " is static", Modifier.isStatic(c.getModifiers()) && !Modifier.isPublic(c.getModifiers()), true);
       int fields = 0;
@@ -51,7 +61,7 @@ public final class FaceTest {
       Checks.due(c.getName() + " has few fields", fields <= 20, true);
       for (Method m : c.getDeclaredMethods()) {
         Checks.due(m + " has few parameters", m.getParameterCount() <= 7, true);
-        Checks.due(m + " has a name of its own", FACE.stream().noneMatch(s -> s.contains(" " + m.getName() + "(")), true);
+        hasItsOwnName(m);
       }
     }
   }
@@ -60,7 +70,29 @@ public final class FaceTest {
     Path path = Path.of("src/main/java/LinkEngine.java");
     String text = Files.readString(path).replaceAll("(?s)/\\*.*?\\*/", "").replaceAll("//[^\n]*", "").replaceAll("\"[^\"]*\"", "\"\"");
     for (String word : new String[] {"throw", "throws", "try", "catch", "synchronized", "assert", "package", "protected", "volatile", "static\\s*\\{", "->", "::", "@", "hashCode", "toString"})
-      Checks.due("in the source: " + word, java.util.regex.Pattern.compile(Character.isLetter(word.charAt(0)) ? "\\b" + word : word).matcher(text).find(), false);
+      Checks.due("in the source: " + word, Pattern.compile(Character.isLetter(word.charAt(0)) ? "\\b" + word : word).matcher(text).find(), false);
+    library(text);
+    lengths(text);
     Checks.due("imports", text.lines().filter(l -> l.startsWith("import ")).toList(), java.util.List.of("import java.util.Arrays;"));
+  }
+
+  /** Rule 4: "The library: only what stands here." */
+  private static void library(String text) {
+    Set<String> allowed = Set.of("Math.abs", "Math.min", "Math.max", "Integer.bitCount", "Arrays.fill", "System.arraycopy");
+    Matcher m = Pattern.compile("\\b([A-Z]\\w*\\.[a-z]\\w*)\\s*\\(").matcher(text);
+    while (m.find()) Checks.due(m.group(1) + " is of the library's part", allowed.contains(m.group(1)), true);
+    for (String type : new String[] {"Object", "double", "float", "Map", "Set", "List", "ArrayList", "Iterator", "StringBuilder"})
+      Checks.due("in the source: " + type, Pattern.compile("\\b" + type + "\\b").matcher(text).find(), false);
+  }
+
+  /** Rule 11: "Methods stay short (some sixty lines)" */
+  private static void lengths(String text) {
+    Matcher m = Pattern.compile("(?ms)^( +)[\\w\\[\\] ]+ (\\w+)\\([^;{}=]*\\) \\{$(.*?)^\\1\\}$").matcher(text);
+    int methods = 0;
+    while (m.find()) {
+      methods++;
+      Checks.due("lines of " + m.group(2) + ", " + m.group(3).lines().count(), m.group(3).lines().count() <= 60, true);
+    }
+    Checks.due("methods are found", methods > 100, true);
   }
 }

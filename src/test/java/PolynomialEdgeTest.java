@@ -1,4 +1,8 @@
 import java.math.BigInteger;
+import java.util.ArrayList;
+import java.util.Collections;
+import java.util.List;
+import java.util.Random;
 
 /** Part V of the document and the lines of the kinds 16 to 18, each sentence at its boundary and beyond. */
 public final class PolynomialEdgeTest {
@@ -21,6 +25,7 @@ public final class PolynomialEdgeTest {
     theNormalFormItself();
     termsAddedUp();
     wholeNumbersOfAnySize();
+    anySizeByChance();
     zeroWithoutTerms();
     printedIsATextAgain();
     oneAfterAnother();
@@ -225,8 +230,52 @@ public final class PolynomialEdgeTest {
     says(one + "4294967297", "# no\n");
     says(one + "1 + 1000000000 - 1000000000", "# yes\n");
     says(one + "1000000001", "# no\n");
+    says(one + "1000000000 - 999999999", "# yes\n");
+    says(one + "-999999999 + 1000000000", "# yes\n");
+    says(one + "999999999 - 1000000000", "# no\n");
+    says(one + "2000000000 - 999999999 - 1000000000", "# yes\n");
+    says(one + "1000000000 - 1999999999", "# no\n");
+    says(one + "1" + " + 999999999".repeat(10) + " - 9999999990", "# yes\n");
+    says(one + "9999999991" + " - 999999999".repeat(10), "# yes\n");
+    says(one + "9999999991" + " - 999999999".repeat(10) + " - 1", "# no\n");
     says(one + "1000000000A + 1 - 1000000000A", "# yes\n");
     says(one + "1" + (" - " + MOST).repeat(18) + " - 446744073709551634" + (" + " + MOST).repeat(18) + " + 446744073709551634", "# yes\n");
+  }
+
+  /** Sums of great numbers that are small, told with terms as they come: whatever is carried, they are added up exactly. */
+  private static void anySizeByChance() {
+    Random random = new Random(18);
+    String[] wrong = {"1", "1000000000", "999999999", "4294967296", "1000000000000000000", "9223372036854775808", "18446744073709551616"};
+    for (int round = 0; round < 200; round++) {
+      String[] goal = {"1A^-4", "1A^-12", "-1A^-16", "0A^0", "0A^7"}; // the trefoil's, and what it has not
+      List<String> terms = new ArrayList<>();
+      for (String g : goal) {
+        String[] parts = g.split("A");
+        BigInteger left = new BigInteger(parts[0]);
+        for (int i = random.nextInt(5); i > 0; i--) {
+          BigInteger some = new BigInteger(random.nextInt(60), random).mod(new BigInteger(MOST)).multiply(BigInteger.valueOf(random.nextBoolean() ? 1 : -1));
+          addTerms(terms, some, parts[1]);
+          left = left.subtract(some);
+        }
+        addTerms(terms, left, parts[1]);
+      }
+      Collections.shuffle(terms, random);
+      says(TREFOIL + "jones = 0" + String.join("", terms), "# yes\n");
+      addTerms(terms, new BigInteger(wrong[round % wrong.length]).multiply(BigInteger.valueOf(random.nextBoolean() ? 1 : -1)), goal[random.nextInt(5)].split("A")[1]);
+      Collections.shuffle(terms, random);
+      says(TREFOIL + "jones = 0" + String.join("", terms), "# no\n");
+    }
+  }
+
+  /** Terms of at most 18 digits that come to that coefficient. */
+  private static void addTerms(List<String> terms, BigInteger coefficient, String exponent) {
+    BigInteger rest = coefficient.abs();
+    String sign = coefficient.signum() < 0 ? " - " : " + ";
+    while (rest.signum() > 0) {
+      BigInteger one = rest.min(new BigInteger(MOST));
+      terms.add(sign + one + (exponent.equals("^0") ? "" : "A" + exponent));
+      rest = rest.subtract(one);
+    }
   }
 
   /** "(0 when there are none)" */
